@@ -235,7 +235,7 @@ public final class CallClub {
             case 4:
                 return asked.letters;
             default:
-                return countsOf(asked);
+                return isCovered(asked) ? asked.limitedLoss() : 0;
         }
     }
 
@@ -394,9 +394,8 @@ public final class CallClub {
         if (arrested.owner != cause.ship.owner) {
             throw new IllegalStateException("the ship is no sister");
         }
-        checkUnsettled(cause);
         if (!cause.holdsShips()) {
-            throw new IllegalStateException("the letters are not less than the loss");
+            throw new IllegalStateException("the claim is settled, or its letters are not less than its loss");
         }
         boolean free = !isHeld(arrested);
         arrested.arrests |= 1L << claim;
@@ -562,17 +561,14 @@ public final class CallClub {
         return !claim.ship.owner.isStoppedOn(day) && wasEntered(claim.ship, day);
     }
 
-    private long countsOf(Claim claim) {
-        return isCovered(claim) ? claim.limitedLoss() : 0;
-    }
-
     private long costOf(Event event) {
         int year = yearOfDay(event.day);
         long cost = 0;
         for (int i = 0; i < claimCount; i++) {
             Claim claim = claims[i];
-            if (claim.event == event && isFirstOfItsGroup(i)) {
-                cost += rules.applied(claim.kind, year, countsOfGroup(i));
+            // A group is of one ship and one day, so that all its claims are covered, or none.
+            if (claim.event == event && isFirstOfItsGroup(i) && isCovered(claim)) {
+                cost += rules.applied(claim.kind, year, lossesOfGroup(i));
             }
         }
         return cost;
@@ -587,14 +583,14 @@ public final class CallClub {
         return true;
     }
 
-    private long countsOfGroup(int first) {
-        long counts = 0;
+    private long lossesOfGroup(int first) {
+        long losses = 0;
         for (int i = first; i < claimCount; i++) {
             if (claims[i].isOfGroup(claims[first])) {
-                counts += countsOf(claims[i]);
+                losses += claims[i].limitedLoss();
             }
         }
-        return counts;
+        return losses;
     }
 
     private long borneOf(Event event) {

@@ -35,16 +35,6 @@ public final class CallsClosingTest {
         Check.end();
     }
 
-    /** Members with a ship of the tonnage each, entered on the day 0; ship and member bear the same number. */
-    private static CallClub club(int... tonnages) {
-        CallClub x = new CallClub();
-        for (int tonnage : tonnages) {
-            int member = x.member();
-            x.enter(x.ship(member, tonnage));
-        }
-        return x;
-    }
-
     private static void dues(CallClub x, String what, int year, long... want) {
         for (int member = 0; member < want.length; member++) {
             Check.equal(what + ", member " + member, x.due(member, year), want[member]);
@@ -52,7 +42,7 @@ public final class CallsClosingTest {
     }
 
     private static void promise21Advance() {
-        CallClub x = club(10, 999);
+        CallClub x = Clubs.ofTonnages(10, 999);
         Check.argument("21 year below 0", () -> x.advance(-1, 0));
         Check.argument("21 year 20", () -> x.advance(20, 0));
         Check.argument("21 cents below 0", () -> x.advance(0, -1));
@@ -68,7 +58,7 @@ public final class CallsClosingTest {
     }
 
     private static void promise21AdvanceClosedOrReleased() {
-        CallClub x = club(10, 10);
+        CallClub x = Clubs.ofTonnages(10, 10);
         x.advance(0, 50);
         x.pass(10);
         x.leave(0);
@@ -77,7 +67,7 @@ public final class CallsClosingTest {
         Check.argument("21 someone was released, cents wrong too", () -> x.advance(0, -1));
         Check.equal("21 nothing changed", x.due(1, 0), 50);
         Check.equal("21 another year", x.advance(1, 60), 0);
-        CallClub y = club(10);
+        CallClub y = Clubs.ofTonnages(10);
         y.pass(100);
         y.close(0);
         Check.state("21 closed", () -> y.advance(0, 60));
@@ -85,7 +75,7 @@ public final class CallsClosingTest {
     }
 
     private static void promise22Further() {
-        CallClub x = club(10, 7);
+        CallClub x = Clubs.ofTonnages(10, 7);
         x.advance(0, 1001);
         Check.argument("22 year below 0", () -> x.further(-1, 1));
         Check.argument("22 year 20", () -> x.further(20, 1));
@@ -108,7 +98,7 @@ public final class CallsClosingTest {
     }
 
     private static void promise22FurtherClosed() {
-        CallClub x = club(10);
+        CallClub x = Clubs.ofTonnages(10);
         x.pass(100);
         Check.equal("22 over, but open", x.further(0, 10), 10);
         x.close(0);
@@ -117,7 +107,7 @@ public final class CallsClosingTest {
     }
 
     private static void promise23ReleaseArguments() {
-        CallClub x = club(10, 10);
+        CallClub x = Clubs.ofTonnages(10, 10);
         x.enter(x.ship(0, 5));
         x.advance(0, 1000);
         x.pass(50);
@@ -126,8 +116,11 @@ public final class CallsClosingTest {
         Check.argument("23 hundredths below 0", () -> x.release(0, -1));
         Check.argument("23 hundredths 201", () -> x.release(0, 201));
         Check.state("23 has ships entered", () -> x.release(0, 0));
+        x.leave(2);
+        Check.state("23 has its first ship entered", () -> x.release(0, 0));
         x.leave(0);
-        Check.state("23 has a ship entered", () -> x.release(0, 0));
+        x.enter(2);
+        Check.state("23 has its last ship entered", () -> x.release(0, 0));
         Check.equal("23 nothing changed", x.rate(0, 0, 100), 100);
         x.leave(2);
         Check.equal("23 of one year", x.release(0, 200), 1);
@@ -141,7 +134,7 @@ public final class CallsClosingTest {
     }
 
     private static void promise23ReleaseDue() {
-        CallClub x = club(10, 10);
+        CallClub x = Clubs.ofTonnages(10, 10);
         x.advance(0, 1111);
         x.further(0, 33);
         x.pass(99);
@@ -157,7 +150,7 @@ public final class CallsClosingTest {
     }
 
     private static void promise23ReleaseOfSeveralYears() {
-        CallClub x = club(10, 10);
+        CallClub x = Clubs.ofTonnages(10, 10);
         x.pass(200);
         x.pass(150);
         x.close(0);
@@ -193,7 +186,7 @@ public final class CallsClosingTest {
         Check.state("23 a weight below 1", () -> x.release(0, 0));
         x.rate(0, 0, 12);
         Check.equal("23 a weight of 1", x.release(0, 0), 1);
-        CallClub y = club(10);
+        CallClub y = Clubs.ofTonnages(10);
         y.pass(100);
         y.leave(0);
         y.close(0);
@@ -201,7 +194,7 @@ public final class CallsClosingTest {
     }
 
     private static void promise24Pay() {
-        CallClub x = club(10, 10);
+        CallClub x = Clubs.ofTonnages(10, 10);
         x.advance(0, 1000);
         Check.index("24 below 0", () -> x.pay(-1, 1));
         Check.index("24 no member, cents wrong too", () -> x.pay(2, 0));
@@ -218,7 +211,7 @@ public final class CallsClosingTest {
     }
 
     private static void promise24PayEndsTheStop() {
-        CallClub x = club(10, 10);
+        CallClub x = Clubs.ofTonnages(10, 10);
         x.advance(0, 1000);
         x.pass(50);
         x.claim(0, CREW, 30, 700, NONE);
@@ -238,7 +231,7 @@ public final class CallsClosingTest {
     }
 
     private static void promise25Stop() {
-        CallClub x = club(10, 10);
+        CallClub x = Clubs.ofTonnages(10, 10);
         x.pass(50);
         x.claim(0, CREW, 30, 700, NONE);
         Check.index("25 below 0", () -> x.stop(-1, 0));
@@ -265,7 +258,7 @@ public final class CallsClosingTest {
     }
 
     private static void promise25StopNotGoneOtherwise() {
-        CallClub x = club(10);
+        CallClub x = Clubs.ofTonnages(10);
         x.advance(0, 1000);
         x.claim(0, CREW, 0, 700, NONE);
         x.stop(0, 0);
@@ -277,7 +270,7 @@ public final class CallsClosingTest {
     }
 
     private static void promise26CloseOrder() {
-        CallClub x = club(10);
+        CallClub x = Clubs.ofTonnages(10);
         Check.argument("26 year below 0", () -> x.close(-1));
         Check.argument("26 year 20", () -> x.close(20));
         Check.state("26 today's year", () -> x.close(0));
@@ -300,7 +293,7 @@ public final class CallsClosingTest {
     }
 
     private static void promise26CloseSettled() {
-        CallClub x = club(10);
+        CallClub x = Clubs.ofTonnages(10);
         x.claim(0, CREW, 0, 10, NONE);
         x.pass(100);
         x.claim(0, CREW, 99, 20, NONE);
@@ -320,7 +313,7 @@ public final class CallsClosingTest {
     }
 
     private static void promise26CloseShares() {
-        CallClub x = club(10, 30, 20);
+        CallClub x = Clubs.ofTonnages(10, 30, 20);
         x.member();
         x.advance(0, 1000);
         x.claim(1, CREW, 0, 1004, NONE);
@@ -329,23 +322,32 @@ public final class CallsClosingTest {
         Check.equal("26 its cost", x.close(0), 1004);
         // 1004 by 10, 30 and 20 of 60: 167.3, 502 and 334.7 are rounded down; one is left for the lowest.
         dues(x, "26 shares", 0, 168, 502, 334, 0);
-        CallClub y = club(10, 10, 10, 10);
+        CallClub y = Clubs.ofTonnages(10, 10, 10, 10);
         y.claim(0, CREW, 0, 11, NONE);
         y.pass(100);
         y.settle(0, false);
         y.close(0);
         dues(y, "26 one more each, the lowest ones", 0, 3, 3, 3, 2);
-        CallClub z = club(10, 10, 10);
+        CallClub z = Clubs.ofTonnages(10, 10, 10);
         z.leave(0);
         z.claim(1, CREW, 0, 5, NONE);
         z.pass(100);
         z.settle(0, false);
         z.close(0);
         dues(z, "26 only who has a weight", 0, 0, 3, 2);
+        CallClub one = Clubs.ofTonnages(1);
+        one.claim(0, CREW, 0, 5, NONE);
+        one.pass(1);
+        one.leave(0);
+        one.pass(99);
+        one.settle(0, false);
+        one.close(0);
+        dues(one, "26 a weight of 1 bears it all", 0, 5);
+        Check.equal("26 nothing is left for the reserve", one.reserve(), 0);
     }
 
     private static void promise26CloseBelowZero() {
-        CallClub x = club(10, 10, 20);
+        CallClub x = Clubs.ofTonnages(10, 10, 20);
         x.advance(0, 1000);
         x.enter(x.ship(x.member(), 7));
         x.claim(0, CREW, 0, 93, NONE);
@@ -363,7 +365,7 @@ public final class CallsClosingTest {
     }
 
     private static void promise26CloseWithReleased() {
-        CallClub x = club(10, 10, 30);
+        CallClub x = Clubs.ofTonnages(10, 10, 30);
         x.advance(0, 1000);
         x.claim(0, CREW, 0, 5000, NONE);
         x.pass(100);
@@ -379,7 +381,7 @@ public final class CallsClosingTest {
     }
 
     private static void promise26CloseKeepsCovers() {
-        CallClub x = club(10, 10);
+        CallClub x = Clubs.ofTonnages(10, 10);
         x.advance(1, 1000);
         x.claim(0, CREW, 0, 700, NONE);
         x.claim(1, CREW, 0, 50, NONE);
@@ -403,7 +405,7 @@ public final class CallsClosingTest {
     }
 
     private static void promise26CloseIsForEver() {
-        CallClub x = club(10, 10);
+        CallClub x = Clubs.ofTonnages(10, 10);
         x.advance(0, 1000);
         x.further(0, 100);
         x.pass(100);
@@ -441,7 +443,7 @@ public final class CallsClosingTest {
     }
 
     private static void promise27Due() {
-        CallClub x = club(10, 15);
+        CallClub x = Clubs.ofTonnages(10, 15);
         Check.index("27 below 0", () -> x.due(-1, 0));
         Check.index("27 no member, year wrong too", () -> x.due(2, 20));
         Check.argument("27 year below 0", () -> x.due(0, -1));
@@ -460,7 +462,7 @@ public final class CallsClosingTest {
     }
 
     private static void promise28Owes() {
-        CallClub x = club(10, 10);
+        CallClub x = Clubs.ofTonnages(10, 10);
         Check.index("28 below 0", () -> x.owes(-1));
         Check.index("28 behind all", () -> x.owes(2));
         Check.equal("28 nothing", x.owes(0), 0);
@@ -478,7 +480,7 @@ public final class CallsClosingTest {
         Check.equal("28 as a year is closed", x.owes(0), -172);
         x.leave(1);
         Check.equal("28 as it leaves", x.owes(1), 5);
-        CallClub y = club(999);
+        CallClub y = Clubs.ofTonnages(999);
         for (int year = 0; year < 20; year++) {
             y.advance(year, 1000000);
         }
@@ -486,7 +488,7 @@ public final class CallsClosingTest {
     }
 
     private static void promise29Result() {
-        CallClub x = club(10, 10);
+        CallClub x = Clubs.ofTonnages(10, 10);
         Check.argument("29 year below 0", () -> x.result(-1));
         Check.argument("29 year 20", () -> x.result(20));
         x.claim(0, CREW, 0, 1700, NONE);
@@ -510,7 +512,7 @@ public final class CallsClosingTest {
     }
 
     private static void promise30IsClosed() {
-        CallClub x = club(10);
+        CallClub x = Clubs.ofTonnages(10);
         Check.argument("30 year below 0", () -> x.isClosed(-1));
         Check.argument("30 year 20", () -> x.isClosed(20));
         x.pass(100);
@@ -522,7 +524,7 @@ public final class CallsClosingTest {
     }
 
     private static void promise31Reserve() {
-        CallClub x = club(10);
+        CallClub x = Clubs.ofTonnages(10);
         x.advance(0, 1000);
         x.advance(1, 4000);
         x.claim(0, CREW, 0, 700, NONE);

@@ -22,16 +22,6 @@ public final class MembersShipsDaysTest {
         Check.end();
     }
 
-    /** Members with a ship of the tonnage each, entered on the day 0; ship and member bear the same number. */
-    private static CallClub club(int... tonnages) {
-        CallClub x = new CallClub();
-        for (int tonnage : tonnages) {
-            int member = x.member();
-            x.enter(x.ship(member, tonnage));
-        }
-        return x;
-    }
-
     private static void pass(CallClub x, int days) {
         int left = days;
         while (left > 0) {
@@ -109,7 +99,7 @@ public final class MembersShipsDaysTest {
     }
 
     private static void promise4EnterAfterRelease() {
-        CallClub x = club(10);
+        CallClub x = Clubs.ofTonnages(10);
         x.ship(0, 20);
         x.pass(40);
         x.leave(0);
@@ -124,7 +114,7 @@ public final class MembersShipsDaysTest {
     }
 
     private static void promise4EntryLimit() {
-        CallClub x = club(10, 20);
+        CallClub x = Clubs.ofTonnages(10, 20);
         for (int i = 0; i < 58; i++) {
             x.leave(0);
             x.enter(0);
@@ -136,7 +126,7 @@ public final class MembersShipsDaysTest {
     }
 
     private static void promise5Leave() {
-        CallClub x = club(10);
+        CallClub x = Clubs.ofTonnages(10);
         Check.index("5 below 0", () -> x.leave(-1));
         Check.index("5 behind all", () -> x.leave(1));
         x.pass(25);
@@ -180,7 +170,7 @@ public final class MembersShipsDaysTest {
     }
 
     private static void promise8Rate() {
-        CallClub x = club(10, 10);
+        CallClub x = Clubs.ofTonnages(10, 10);
         Check.index("8 member below 0", () -> x.rate(-1, 0, 100));
         Check.index("8 no member, all else wrong", () -> x.rate(2, 20, 9));
         Check.argument("8 year below 0", () -> x.rate(0, -1, 100));
@@ -198,7 +188,7 @@ public final class MembersShipsDaysTest {
     }
 
     private static void promise8RateClosedOrReleased() {
-        CallClub x = club(10, 10);
+        CallClub x = Clubs.ofTonnages(10, 10);
         x.pass(50);
         x.leave(0);
         x.release(0, 0);
@@ -215,7 +205,7 @@ public final class MembersShipsDaysTest {
     }
 
     private static void promise9Weight() {
-        CallClub x = club(10, 7);
+        CallClub x = Clubs.ofTonnages(10, 7);
         Check.index("9 below 0", () -> x.weight(-1, 0));
         Check.index("9 no member, year wrong too", () -> x.weight(2, 20));
         Check.argument("9 year below 0", () -> x.weight(0, -1));
@@ -234,7 +224,7 @@ public final class MembersShipsDaysTest {
     }
 
     private static void promise9WeightReentered() {
-        CallClub x = club(10);
+        CallClub x = Clubs.ofTonnages(10);
         x.pass(20);
         x.leave(0);
         x.pass(30);
@@ -247,7 +237,7 @@ public final class MembersShipsDaysTest {
     }
 
     private static void promise9WeightRoundedOnce() {
-        CallClub x = club(1);
+        CallClub x = Clubs.ofTonnages(1);
         x.enter(x.ship(0, 1));
         x.pass(7);
         x.leave(0);
@@ -260,7 +250,7 @@ public final class MembersShipsDaysTest {
     }
 
     private static void promise10WeightAnew() {
-        CallClub x = club(10, 7);
+        CallClub x = Clubs.ofTonnages(10, 7);
         Check.index("10 below 0", () -> x.weightAnew(-1, 0));
         Check.index("10 no member, year wrong too", () -> x.weightAnew(2, -1));
         Check.argument("10 year below 0", () -> x.weightAnew(0, -1));
