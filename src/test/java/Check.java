@@ -2,6 +2,7 @@
 final class Check {
     private static int asked;
     private static int wrong;
+    private static String about = "";
 
     private Check() {
     }
@@ -53,9 +54,14 @@ final class Check {
         }
     }
 
+    /** What the next answers are about; it is printed ahead of each wrong one. */
+    static void about(String what) {
+        about = what;
+    }
+
     static void tell(String fault) {
         wrong++;
-        System.out.println(fault);
+        System.out.println(about + fault);
     }
 
     static void end() {
