@@ -154,6 +154,11 @@ final class ClosingBounds {
         Clubs.passTo(x, 300);
         x.close(0);
         Refuses.state(x, "the closing of a year ahead frees none", c -> c.advance(1, 6));
+        CallClub y = withOneGone();
+        y.release(0, 0);
+        Refuses.state(y, "the first member", c -> c.advance(0, 6));
+        CallClub z = withOneGone();
+        Check.equal("left, but not released", z.advance(0, 6), 1000);
     }
 
     private static void furtherYears() {
@@ -332,10 +337,11 @@ final class ClosingBounds {
         CallClub x = Clubs.ofTonnages(10);
         Check.equal("1", x.pay(0, 1), -1);
         Check.equal("1000000000", x.pay(0, 1000000000), -1000000001);
-        for (int i = 0; i < 7; i++) {
+        // Member, ship, entry, the two payments above and owes are calls, too: 512 in all.
+        for (int i = 0; i < 506; i++) {
             x.pay(0, 1000000000);
         }
-        Check.equal("together", x.owes(0), -8000000001L);
+        Check.equal("as many as there can be", x.owes(0), -507000000001L);
     }
 
     private static void owesThen() {

@@ -1,3 +1,4 @@
+import java.util.List;
 import java.util.function.Supplier;
 
 /** Promises 1 to 34: long runs of mixed calls, right and wrong ones; each answer is that of the plain Model. */
@@ -5,17 +6,23 @@ public final class ModelTest {
     private static final int RUNS = 1500;
     // An object is used for 512 calls; a step makes up to 75, and the look at all up to 77.
     private static final int CALLS_OF_STEPS = 512 - 75 - 77;
+    // In each so many runs it is looked at whether refused and asking calls leave the object as it was.
+    private static final int WATCHED = 25;
+    private static final List<String> ASKING = List.of("day", "weight", "weightAnew", "ofClaim", "ofEvent", "cost",
+            "due", "owes", "result", "isClosed", "reserve", "isArrested");
 
     private final CallClub club = new CallClub();
     private final Model model = new Model();
     private final StringBuilder told = new StringBuilder();
     // A fixed row of numbers for each run, so that each run of this test asks the same.
     private long seed;
+    private final boolean watched;
     private int calls;
     private boolean wrong;
 
     private ModelTest(long run) {
         seed = run * 0x9E3779B97F4A7C15L + 1;
+        watched = run % WATCHED == 0;
     }
 
     public static void main(String[] args) {
@@ -399,13 +406,20 @@ public final class ModelTest {
         if (wrong) {
             return;
         }
+        String before = watched ? Picture.of(club) : "";
+        boolean changes = !ASKING.contains(call.substring(0, call.indexOf('(')));
         String got;
         try {
             got = asked.get();
         } catch (RuntimeException e) {
             got = e.getClass().getSimpleName();
+            changes = false;
         }
         told.append("  ").append(call).append(" -> ").append(got).append('\n');
+        if (watched && !changes && !before.equals(Picture.of(club))) {
+            wrong = true;
+            told.append("  the object is changed\n");
+        }
         if (!got.equals(want)) {
             wrong = true;
             told.append("  due is ").append(want).append('\n');

@@ -277,6 +277,15 @@ final class TermsClosingBounds {
         y.close(0);
         Check.equal("by weights, the least", y.due(0, 0), 1);
         Check.equal("by weights, the largest", y.due(1, 0), 999);
+        CallClub z = Clubs.ofTonnages(1);
+        z.claim(0, CREW, 0, 5, NONE);
+        z.settle(0, false);
+        z.pass(1);
+        z.leave(0);
+        z.pass(99);
+        z.close(0);
+        Check.equal("a weight of 1 alone", z.due(0, 0), 5);
+        Check.equal("nothing for the reserve", z.reserve(), 0);
     }
 
     /** Eleven members with the same weight and a released one, of whom 1 is due, of a year with the cost told. */

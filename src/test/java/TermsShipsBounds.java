@@ -149,8 +149,10 @@ final class TermsShipsBounds {
         CallClub plain = new CallClub();
         CallClub asked = new CallClub();
         for (int step = 0; step < 24; step++) {
+            String before = Picture.of(asked);
             tell(plain, step);
             tell(asked, step);
+            Check.equal("step " + step + " itself is seen", before.equals(Picture.of(asked)), false);
             refusedOnes(asked);
             Check.equal("behind step " + step, Picture.of(asked).equals(Picture.of(plain)), true);
         }
