@@ -1,7 +1,11 @@
+import java.io.IOException;
 import java.lang.reflect.Constructor;
 import java.lang.reflect.Field;
 import java.lang.reflect.Method;
 import java.lang.reflect.Modifier;
+import java.nio.charset.StandardCharsets;
+import java.nio.file.Files;
+import java.nio.file.Path;
 import java.util.Arrays;
 import java.util.List;
 import java.util.TreeSet;
@@ -49,13 +53,38 @@ public final class FaceTest {
     private FaceTest() {
     }
 
-    public static void main(String[] args) {
+    public static void main(String[] args) throws IOException {
+        asTheDocumentWritesIt();
         theClass();
         theMethods();
         theConstants();
         theFields();
         theClassesInside();
         Check.end();
+    }
+
+    /** Each line of the document's face stands in the class: names of parameters and declared exceptions, too. */
+    private static void asTheDocumentWritesIt() throws IOException {
+        Path path = Path.of(System.getProperty("shared", "../shared"), "DOC.md");
+        if (!Files.isReadable(path)) {
+            System.out.println(path + " is not there; the face was not compared with it");
+            return;
+        }
+        String text = Files.readString(path, StandardCharsets.UTF_8);
+        String face = text.substring(text.indexOf("## The public face"), text.indexOf("## Terms"));
+        Path main = Path.of(System.getProperty("root", "."), "src/main/java/CallClub.java");
+        String written = Files.readString(main, StandardCharsets.UTF_8).replaceAll("\\s+", " ");
+        int lines = 0;
+        for (String line : face.split("\n")) {
+            String words = line.strip();
+            if (words.startsWith("public ")) {
+                lines++;
+                String end = words.contains(" = ") || words.endsWith("{") ? "" : " {";
+                String due = end.isEmpty() ? words : words.substring(0, words.length() - 1) + end;
+                Check.equal("the class has the line " + words, written.contains(due), true);
+            }
+        }
+        Check.equal("lines of the face", lines, FACE.length + 4);
     }
 
     private static void theClass() {
